@@ -76,6 +76,8 @@ public final class JoiningTest {
         DUE.is("share(0, 1)", x.share(0, 1), 500000);
         DUE.is("END: the first such", x.ofItem(0, 7), 0);
         DUE.is("SURE", x.ofItem(0, 8), 500);
+        x.set(1, 0);
+        DUE.is("join(): the sixth TURN changes nothing", x.join(), 6);
         x.set(1, 291);
         DUE.is("join(): 292 is more than 291", x.join(), 6);
         x.set(1, 292);
@@ -254,6 +256,15 @@ public final class JoiningTest {
         HandsHall y = new HandsHall();
         y.join();
         DUE.is("next(0): a JOINING without HANDS", y.next(0), -6);
+        HandsHall z = Due.of("a:K!0", 3, 1);
+        Due.known(z, ".10");
+        Due.answers(z, 0, ".10");
+        z.join();
+        DUE.is("next(0): ITEM 0", z.next(0), 0);
+        z.out(0, true);
+        for (int what = 0; what <= 2; what++) {
+            DUE.is("next(" + what + "): all are out", z.next(what), -6);
+        }
     }
 
     /** The greatest HELP, not the first: HAND 0 guesses, HAND 1 is right in both, HAND 2 as well. */

@@ -162,7 +162,14 @@ public final class OddsTest {
         DUE.is("misread(3), shown otherwise", x.misread(3), 4);
         x.out(3, true);
         DUE.is("misread(3), one out", x.misread(3), 0);
-        DUE.is("misread(10)", x.misread(10), 0);
+        HandsHall y = Due.of("a:K!0", 1, 10);
+        y.known(0, 1);
+        y.show(0, 9);
+        for (int hand = 0; hand < 10; hand++) {
+            DUE.is("misread(10), not all yet", y.misread(10), 0);
+            y.answer(hand, 0, 0);
+        }
+        DUE.is("misread(10)", y.misread(10), 9);
         DUE.is("misread(0)", x.misread(0), -2);
         DUE.is("misread(11)", x.misread(11), -2);
         DUE.is("misread(-1)", x.misread(-1), -2);
@@ -254,6 +261,10 @@ public final class OddsTest {
         DUE.is("the latest JOINING stays: share", x.share(2, 1), was);
         DUE.is("the latest JOINING stays: table", x.table(0, 2, 1, 1), table);
         x.out(0, false);
+        HandsHall y = Due.of("a:K!0", 3, 1);
+        Due.known(y, ".10");
+        Due.answers(y, 0, "110");
+        DUE.is("lean(0), ITEM 0", y.lean(0), 1);
         DUE.is("lean(0) leaves it in", x.lean(0), 4);
         DUE.is("still in", x.out(0, false), 0);
     }

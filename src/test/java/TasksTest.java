@@ -105,6 +105,7 @@ public final class TasksTest {
         x.item(0, 0);
         Due.hands(x, 2);
         x.answer(0, 0, 1);
+        x.show(0, 5);
         x.set(3, 7);
         x.pays(3, 5, 6);
         x.deal(1);
@@ -117,8 +118,10 @@ public final class TasksTest {
         DUE.is("ITEMS stay", x.told(2), 1);
         DUE.is("answers stay", x.said(0, 0), 1);
         DUE.is("STEPS stay", x.step(1, 1), 3);
-        Due.say(x, "d:C4!2");
+        Due.say(x, "d:C4!23");
+        DUE.is("fault() anew", x.fault(), -6);
         DUE.is("task() anew", x.task(), 2);
+        DUE.is("its number", x.step(1, 3), 23);
         DUE.is("no ITEMS then", x.told(2), 0);
         DUE.is("no HANDS then", x.told(3), 0);
         DUE.is("no answers then", x.told(4), 0);
@@ -127,6 +130,7 @@ public final class TasksTest {
         DUE.is("their needs too", x.step(1, 2), 0);
         DUE.is("ITEMS from 0 on", x.item(1, 3), 0);
         DUE.is("its SHARES", x.share(0, 3), 250000);
+        DUE.is("its PARTS", x.ofItem(0, 9), 0);
         DUE.is("HANDS from 0 on", x.hand(), 0);
         DUE.is("HANDS from 0 on", x.hand(), 1);
         DUE.is("in", x.out(1, false), 0);
