@@ -133,6 +133,7 @@ public final class HandsHall {
             return STATE;
         }
         items.known[item] = label;
+        latest.startGiven(item);
         return 1;
     }
 
@@ -145,6 +146,7 @@ public final class HandsHall {
         }
         int was = items.settled[item];
         items.settled[item] = label;
+        latest.startGiven(item);
         return was;
     }
 
@@ -180,7 +182,7 @@ public final class HandsHall {
             case 6:
                 return hands.countTo(item);
             case 7:
-                return endOf(item);
+                return latest.greatest(item);
             case 8:
                 return sureOf(item);
             case 9:
@@ -476,13 +478,8 @@ public final class HandsHall {
 
     // ---- what several calls ask
 
-    private int endOf(int item) {
-        return items.isFree(item) ? latest.greatest(item) : items.given(item);
-    }
-
     private int sureOf(int item) {
-        // An ITEM that is KNOWN or SETTLED since the JOINING keeps its old SHARES: they must not be asked.
-        return items.isFree(item) ? latest.shares[item][latest.greatest(item)] / 1000 : 1000;
+        return latest.shares[item][latest.greatest(item)] / 1000;
     }
 
     private boolean isOpen(int item) {
@@ -945,19 +942,30 @@ public final class HandsHall {
             }
         }
 
-        private void startShares(int item) {
+        /** SHARES of one that is KNOWN or SETTLED: it has them at once, ahead of the next JOINING. */
+        void startGiven(int item) {
+            int given = items.given(item);
+            for (int t = 0; t < items.labels[item]; t++) {
+                shares[item][t] = t == given ? WHOLE : 0;
+            }
+        }
+
+        private void startByAnswers(int item) {
             int answers = hands.countTo(item);
-            boolean free = items.isFree(item);
-            if (free && answers == 0) {
+            if (answers <= 0) {
                 startAlike(item);
                 return;
             }
             for (int t = 0; t < items.labels[item]; t++) {
-                if (!free) {
-                    shares[item][t] = t == items.given(item) ? WHOLE : 0;
-                } else if (answers > 0) {
-                    shares[item][t] = WHOLE * hands.countWith(item, t) / answers;
-                }
+                shares[item][t] = WHOLE * hands.countWith(item, t) / answers;
+            }
+        }
+
+        private void startShares(int item) {
+            if (items.isFree(item)) {
+                startByAnswers(item);
+            } else {
+                startGiven(item);
             }
         }
 

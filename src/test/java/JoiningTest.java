@@ -10,6 +10,7 @@ public final class JoiningTest {
         knownOnesTeach();
         putOut();
         byTheLatest();
+        givenWithNoJoining();
         share();
         table();
         next();
@@ -177,13 +178,35 @@ public final class JoiningTest {
         x.answer(0, 2, 1);
         DUE.is("SHARE of what is made since", x.share(2, 1), 500000);
         x.settle(0, 0);
-        DUE.is("SHARE of what is SETTLED since", x.share(0, 1), 646892);
+        DUE.is("SHARE of what is SETTLED since", x.share(0, 0), 1000000);
+        DUE.is("SHARE of what is SETTLED since, another LABEL", x.share(0, 1), 0);
         DUE.is("END of what is SETTLED since", x.ofItem(0, 7), 0);
         DUE.is("SURE of what is SETTLED since", x.ofItem(0, 8), 1000);
         x.join();
         DUE.is("SHARE of what is SETTLED", x.share(0, 1), 0);
         x.settle(0, 1);
         DUE.is("END of what is SETTLED anew", x.ofItem(0, 7), 1);
+        DUE.is("SHARE of what is SETTLED anew", x.share(0, 1), 1000000);
+        DUE.is("SHARE of what is SETTLED anew, the LABEL ahead", x.share(0, 0), 0);
+    }
+
+    private static void givenWithNoJoining() {
+        HandsHall x = Due.of("a:C3!0", 3, 1);
+        x.answer(0, 0, 1);
+        x.settle(0, 2);
+        DUE.is("SHARE, SETTLED with no JOINING", x.share(0, 2), 1000000);
+        DUE.is("SHARE, SETTLED with no JOINING, what was answered", x.share(0, 1), 0);
+        x.known(1, 0);
+        DUE.is("SHARE, KNOWN with no JOINING", x.share(1, 0), 1000000);
+        DUE.is("SHARE, KNOWN with no JOINING, another LABEL", x.share(1, 1), 0);
+        DUE.is("SHARE of one beside them", x.share(2, 1), 333333);
+        x.join();
+        x.known(2, 1);
+        DUE.is("SHARE, KNOWN since a JOINING", x.share(2, 1), 1000000);
+        DUE.is("SHARE, KNOWN since a JOINING, another LABEL", x.share(2, 0), 0);
+        DUE.is("known(2, 0), refused", x.known(2, 0), -3);
+        DUE.is("settle(2, 0), refused", x.settle(2, 0), -3);
+        DUE.is("SHARE, refused calls change nothing", x.share(2, 0), 0);
     }
 
     private static void share() {

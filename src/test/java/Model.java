@@ -359,7 +359,10 @@ final class Model {
     }
 
     int share(int item, int label) {
-        return noLabel(item, label) ? UNKNOWN : (int) get(item).shares[label];
+        if (noLabel(item, label)) return UNKNOWN;
+        Item it = get(item);
+        boolean given = it.known != NONE || it.settled != NONE;
+        return given ? label == end(it) ? 1000000 : 0 : (int) it.shares[label];
     }
 
     int table(int hand, int labels, int t, int s) {

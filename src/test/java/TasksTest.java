@@ -255,7 +255,8 @@ public final class TasksTest {
         x.settle(0, 2);
         DUE.is("END, SETTLED since", x.ofItem(0, 7), 2);
         DUE.is("SURE, SETTLED since", x.ofItem(0, 8), 1000);
-        DUE.is("SHARE, SETTLED since: by the latest JOINING", x.share(0, 2), 250000);
+        DUE.is("SHARE, SETTLED since", x.share(0, 2), 1000000);
+        DUE.is("SHARE, SETTLED since, another LABEL", x.share(0, 3), 0);
     }
 
     /** The number that SURE is held against is that of the STEP of the ITEM that NEEDS, not of the one it NEEDS. */
