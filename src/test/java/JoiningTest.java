@@ -15,7 +15,6 @@ public final class JoiningTest {
         table();
         next();
         nextOfSeveral();
-        sumsOfNothing();
         DUE.end();
     }
 
@@ -302,27 +301,5 @@ public final class JoiningTest {
         DUE.is("next(0)", x.next(0), 3);
         DUE.is("next(1)", x.next(1), 2);
         DUE.is("next(2)", x.next(2), 416000);
-    }
-
-    /**
-     * Numbers cut to 0 may leave nothing: then SHARES stay. All say 0 to ITEM 23. HANDS 0 to 8 say just the other LABEL
-     * of KNOWN ones, so that 0 comes down to nothing by 77 against 999; HAND 9 never says 0 where 1 is so.
-     */
-    private static void sumsOfNothing() {
-        HandsHall x = Due.of("a:C2!0;b:K!0;c:O!0", 24, 10);
-        Due.known(x, "00000000000011111111111");
-        x.set(0, 1);
-        x.set(2, 1);
-        for (int hand = 0; hand < 9; hand++) {
-            Due.answers(x, hand, "111111111111000000000000");
-        }
-        Due.answers(x, 9, "111111111111111111111110");
-        DUE.is("join()", x.join(), -99);
-        DUE.is("table(0, 2, 0, 0)", x.table(0, 2, 0, 0), 77);
-        DUE.is("table(0, 2, 1, 0)", x.table(0, 2, 1, 0), 999);
-        DUE.is("table(9, 2, 0, 0)", x.table(9, 2, 0, 0), 77);
-        DUE.is("table(9, 2, 1, 0)", x.table(9, 2, 1, 0), 0);
-        DUE.is("share(23, 0)", x.share(23, 0), 0);
-        DUE.is("share(23, 1)", x.share(23, 1), 1000000);
     }
 }

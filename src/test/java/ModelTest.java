@@ -3,7 +3,10 @@ import java.util.Random;
 /** Long runs of calls, of which the seeds are written here: each answer beside the Model's. */
 public final class ModelTest {
     private static final int RUNS = 600;
+    /** What an object may be used for. */
     private static final int CALLS = 512;
+    /** What textual() may need. */
+    private static final int TEXTUAL = 130;
     private static final int[] EDGES = {Integer.MIN_VALUE, Integer.MIN_VALUE + 1, -1000001, -7, -6, -1, 11, 24, 25, 60,
         127, 1001, 1000001, Integer.MAX_VALUE - 1, Integer.MAX_VALUE};
 
@@ -34,9 +37,9 @@ public final class ModelTest {
 
     /** Every PLAN there is. */
     private static void plans(Due due) {
-        HandsHall x = new HandsHall();
-        Model m = new Model();
         for (int q = -1; q <= 101; q++) {
+            HandsHall x = new HandsHall();
+            Model m = new Model();
             for (int s = -1; s <= 101; s++) {
                 due.is("plan(" + q + ", " + s + ")", x.plan(q, s), m.plan(q, s));
             }
@@ -127,7 +130,7 @@ public final class ModelTest {
 
     private void any() {
         switch (lot.nextInt(34)) {
-            case 0: textual(); break;
+            case 0: if (left >= TEXTUAL) textual(); break;
             case 1: step(); break;
             case 2: item(); break;
             case 3: known(num(24)); break;
