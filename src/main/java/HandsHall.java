@@ -934,11 +934,16 @@ public final class HandsHall {
             return most - 100;
         }
 
+        /** The SHARE of each LABEL where nothing tells them apart. */
+        private static int alike(int labels) {
+            return labels > 0 ? WHOLE / labels : 0;
+        }
+
         /** SHARES of an ITEM without answers that is neither KNOWN nor SETTLED. */
         void startAlike(int item) {
             int labels = items.labels[item];
             for (int t = 0; t < labels; t++) {
-                shares[item][t] = WHOLE / labels;
+                shares[item][t] = alike(labels);
             }
         }
 
@@ -1020,7 +1025,7 @@ public final class HandsHall {
         private void weighAnswers(int item) {
             int labels = items.labels[item];
             for (int t = 0; t < labels; t++) {
-                fresh[t] = WHOLE / labels;
+                fresh[t] = alike(labels);
             }
             for (int hand = 0; hand < hands.count; hand++) {
                 if (hands.counts(hand, item)) {

@@ -22,7 +22,7 @@ final class Book {
         document = plain(Files.readString(path));
     }
 
-    private static String plain(String text) {
+    static String plain(String text) {
         return text.replace("```text", "").replace("```", "").replaceAll("\\s+", " ");
     }
 

@@ -16,6 +16,7 @@ final class JoiningEdges {
         joinCuts();
         joinOfOneKindEach();
         joinSumOfNothing();
+        joinSumOfOne();
         joinFull();
         share();
         shareRefused();
@@ -24,6 +25,7 @@ final class JoiningEdges {
         next();
         nextOfOneLeft();
         nextHelp();
+        nextHelpOfNothing();
         nextRefused();
     }
 
@@ -196,6 +198,28 @@ final class JoiningEdges {
         book.is("table(9, 2, 1, 0)", x.table(9, 2, 1, 0), 0);
         book.is("share(23, 0)", x.share(23, 0), 0);
         book.is("share(23, 1)", x.share(23, 1), 1000000);
+    }
+
+    /**
+     * The least sum that is not 0. All say 0 to ITEM 23; the nine leave 0, 999998, 1 of it; the tenth never says 0
+     * where 1 is so, and once of a thousand times where 2 is so: 1 by 1.
+     */
+    private void joinSumOfOne() {
+        HandsHall x = Due.of("a:C3!0;b:C3!0;c:C3!0", 24, 10);
+        Due.known(x, "00000000111111111122222");
+        x.set(0, 1);
+        x.set(2, 1);
+        for (int hand = 0; hand < 9; hand++) {
+            Due.answers(x, hand, "111111110000000000" + (hand == 6 ? "00111" : "01111") + "0");
+        }
+        Due.answers(x, 9, "111111111111111111111110");
+        book.is("join()", x.join(), -99);
+        int[] numbers = {111, 0, 1};
+        int[] shares = {0, 0, 1000000};
+        for (int t = 0; t < 3; t++) {
+            book.is("table(9, 3, " + t + ", 0)", x.table(9, 3, t, 0), numbers[t]);
+            book.is("share(23, " + t + ")", x.share(23, t), shares[t]);
+        }
     }
 
     /** 24 ITEMS, 10 HANDS, 240 answers, beside the Model. */
@@ -486,6 +510,23 @@ final class JoiningEdges {
         Due.answers(one, 3, "0202");
         one.join();
         nextIs(one, "HELP is just 1", 0, 2, 1);
+    }
+
+    /** SHARES 0, 473543, 526455; HAND 3 never says 0 where 1 or 2 is so: nothing for 0, 798 and 907 for the others. */
+    private void nextHelpOfNothing() {
+        book.says("the sum over LABELS s of the greatest (over t) SHARE times the HAND's number of t, s");
+        HandsHall x = Due.of("a:C3!0;b:C3!0;c:C3!0", 24, 4);
+        Due.known(x, "00111111111122222222222");
+        x.set(0, 1);
+        x.set(2, 1);
+        String[] answers = {"001112222222112222222222", "001111111222111222222221", "001111111122111111222222",
+            "00111111112222222222221."};
+        for (int hand = 0; hand < 4; hand++) {
+            Due.answers(x, hand, answers[hand]);
+        }
+        x.join();
+        // 377887314 + 477494685 is 855381999: one more would be 855382 thousands.
+        nextIs(x, "nothing for one LABEL", 23, 3, 855381 - 526455);
     }
 
     private void nextRefused() {
